@@ -62,8 +62,7 @@ public final class ForkWatch {
     private static final int BAD_ARGUMENT = -2;
     private static final int BAD_STATE = -3;
 
-    private final byte[] buffer = new byte[MAX_TEXT];
-    private final Parser parser = new Parser(buffer);
+    private final Parser parser = new Parser();
     private final Service service = new Service();
     private int fed;
     private int refusedSteps;
@@ -87,7 +86,7 @@ public final class ForkWatch {
 
     private void putBytes(int four) {
         for (int shift = 24; shift >= 0 && fed < MAX_TEXT; shift -= 8) {
-            buffer[fed] = (byte) (four >>> shift);
+            parser.tokens.text[fed] = (byte) (four >>> shift);
             fed++;
         }
     }
@@ -122,7 +121,7 @@ public final class ForkWatch {
         return done;
     }
 
-    /** Empties the buffer before the text is parsed, which works since its bytes stay in place until they are fed over. */
+    /** Empties the buffer. Its text can still be parsed, since its bytes stay in place until others are fed. */
     private void takeBuffer(int length) {
         if (length < 0 || length > fed) {
             throw new IllegalArgumentException("the length is out of range");
@@ -663,7 +662,7 @@ public final class ForkWatch {
             return row >= 0 && row < rows;
         }
 
-        /** Adds a row, for which the oldest one may have to go, and returns its number; its parts are still to be set. */
+        /** Adds a row, for which the oldest one may have to go. Its parts are whatever stood there: set them all. */
         int addRow() {
             if (rows >= limit) {
                 System.arraycopy(cells, width, cells, 0, (limit - 1) * width);
@@ -1017,20 +1016,16 @@ public final class ForkWatch {
         Kind kind = Kind.END;
     }
 
-    /** Splits a text into tokens. A token that no grammar allows anywhere is of the kind WRONG. */
+    /** The input buffer and the tokens of its text. One that no grammar allows anywhere is of the kind WRONG. */
     private static final class Tokens {
-        final byte[] text;
+        final byte[] text = new byte[MAX_TEXT];
         final Kind[] kinds = new Kind[MAX_TEXT + 1];
         final int[] starts = new int[MAX_TEXT + 1];
         final int[] numbers = new int[MAX_TEXT + 1];
         int count;
 
-        Tokens(byte[] text) {
-            this.text = text;
-        }
-
         void scan(int length) {
-            int end = Math.max(0, Math.min(length, text.length));
+            int end = Math.max(0, Math.min(length, MAX_TEXT));
             int runEnd = -1;
             count = 0;
             for (int at = 0, next = 0; at < end; at = next) {
@@ -1120,7 +1115,7 @@ public final class ForkWatch {
      * others stand further right, or at the same place with a greater code.
      */
     private static final class Parser {
-        final Tokens tokens;
+        final Tokens tokens = new Tokens();
         final Step[] steps = new Step[MAX_STEPS];
         int current;
         int stepCount;
@@ -1130,8 +1125,7 @@ public final class ForkWatch {
         int failCode;
         int failPosition = -1;
 
-        Parser(byte[] text) {
-            tokens = new Tokens(text);
+        Parser() {
             for (int at = 0; at < MAX_STEPS; at++) {
                 steps[at] = new Step();
             }

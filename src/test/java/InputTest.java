@@ -74,11 +74,11 @@ public final class InputTest {
         w.post(0);
         Checks.run(w, "heal 0 0;");
         Checks.dueThrows("a wrong service", Checks.STATE, () -> Checks.load(w, "clients 3 blocks 2;"));
-        Checks.due("the old service stays", w.branches() * 1000 + w.blames() * 100 + w.posts() * 10 + w.refused(), 2111);
+        Checks.due("the old service stays", countsOf(w), 2111);
         Checks.due("suspicion stays", w.isSuspicious(1), true);
         Checks.due("a second service", Checks.load(w, "\n clients\n6 blocks 000016 witness 50 ; \n"), 6);
         Checks.due("blocks of it", w.blocks(), 16);
-        Checks.due("all begins anew", w.branches() * 1000 + w.blames() * 100 + w.posts() * 10 + w.refused(), 1000);
+        Checks.due("all begins anew", countsOf(w), 1000);
         Checks.due("length", w.length(0), 0);
         for (int i = 0; i < 6; i++) {
             Checks.due("branch of " + i, w.branchOf(i), 0);
@@ -90,6 +90,10 @@ public final class InputTest {
         w.post(0);
         Checks.due("seals begin anew", w.boardPost(0, 3), Checks.seal(1, 0, 0, 1));
         Checks.due("value begins anew", w.read(0, 0), 0);
+    }
+
+    private static int countsOf(ForkWatch w) {
+        return w.branches() * 1000 + w.blames() * 100 + w.posts() * 10 + w.refused();
     }
 
     private static void serviceErrors() {
@@ -278,9 +282,11 @@ public final class InputTest {
 
     private static void refusals() {
         ForkWatch w = Checks.service(3, 2, 50);
-        Checks.due("all refused", Checks.run(w, "move 0 1;rewind 0 1;corrupt 0 1 5;exchange 1 1;heal 0 0;heal 0 1;"), 0);
+        String wrong = "move 0 1;rewind 0 1;corrupt 0 1 5;exchange 1 1;heal 0 0;heal 0 1;";
+        Checks.due("all refused", Checks.run(w, wrong), 0);
         Checks.due("refused", w.refused(), 6);
-        Checks.due("script with a refused step", Checks.run(w, "0 writes 0 1;rewind 0 1;0 reads 0;1 reads 0;0 reads 0;"), 3);
+        String mixed = "0 writes 0 1;rewind 0 1;0 reads 0;1 reads 0;0 reads 0;";
+        Checks.due("script with refused steps", Checks.run(w, mixed), 3);
         Checks.due("refused then", w.refused(), 2);
         Checks.due("the blame of the refused step stays", w.blames(), 1);
         Checks.due("and the suspicion", w.isSuspicious(0), true);

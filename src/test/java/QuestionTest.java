@@ -1,3 +1,5 @@
+import java.math.BigInteger;
+
 /** Promises 19 to 27: clients, blocks, branches, length, entry, value, branchOf, commonLength, conflicts. */
 public final class QuestionTest {
     public static void main(String[] args) {
@@ -122,14 +124,14 @@ public final class QuestionTest {
 
     private static int[] collidingWrites() {
         long modulus = 2147483647L;
-        java.math.BigInteger prime = java.math.BigInteger.valueOf(modulus);
-        long inverse = java.math.BigInteger.valueOf(15485863).modInverse(prime).longValue();
+        BigInteger prime = BigInteger.valueOf(modulus);
+        BigInteger inverse = BigInteger.valueOf(15485863).modInverse(prime);
         // Client 0 and client 1 write block 0 first and block 1 then: 7919 is what the clients make different.
         for (int first = 0; first < 100000; first++) {
             long one = Checks.writeHash(1, 0, 0, first, 1);
             long two = Checks.writeHash(1, 1, 0, 0, 1);
             long gap = Math.floorMod((one - two) * 1000003L - 7919L, modulus);
-            long more = java.math.BigInteger.valueOf(gap).multiply(java.math.BigInteger.valueOf(inverse)).mod(prime).longValue();
+            long more = BigInteger.valueOf(gap).multiply(inverse).mod(prime).longValue();
             if (more <= 999999 && one != two) {
                 return new int[] {first, 0, 0, (int) more};
             }
