@@ -177,7 +177,12 @@ public final class ClientTest {
         Checks.due("seven", w.forkedPairs(), 7);
         w.rewind(0, 2);
         w.adopt(3);
-        Checks.due("four", w.forkedPairs(), 5);
+        Checks.due("less after adopt", w.forkedPairs(), 5);
+        ForkWatch v = Checks.service(2, 1, 50);
+        v.fork(1);
+        v.read(0, 0);
+        v.read(1, 0);
+        Checks.due("0 and 1", v.forkedPairs(), 1);
     }
 
     private static void viewers() {

@@ -7,6 +7,8 @@ public final class InputTest {
         serviceErrors();
         running();
         scriptErrors();
+        cutTexts();
+        afterOtherServices();
         limits();
         spelling();
         refusals();
@@ -190,6 +192,9 @@ public final class InputTest {
         scriptError("0 clients 0;", 1, 2);
         scriptError("0 1 reads 0;", 1, 2);
         scriptError("reads 0;", 1, 0);
+        scriptError("blocks;", 1, 0);
+        scriptError("witness;", 1, 0);
+        scriptError("clients;", 1, 0);
         scriptError("writes 0 0;", 1, 0);
         scriptError("0 writes 1 1000000;", 1, 11);
         scriptError("0 writes 2 1;", 2, 9);
@@ -236,6 +241,42 @@ public final class InputTest {
         Checks.due("empty buffer behind " + text, w.feed(0, 0, 0, 0, 0), 20);
     }
 
+    /** The text ends where the length says, though the buffer goes on. */
+    private static void cutTexts() {
+        ForkWatch w = new ForkWatch();
+        Checks.feed(w, "clients 3 blocks 2 witness 51;");
+        Checks.dueThrows("a number is cut", Checks.STATE, () -> w.load(28));
+        Checks.due("code of the cut number", w.errorCode(), 1);
+        Checks.due("position of the cut number", w.errorPosition(), 28);
+        Checks.load(w, "clients 3 blocks 2 witness 5;");
+        Checks.feed(w, "0 writesx 0 0;");
+        Checks.dueThrows("a word is cut", Checks.STATE, () -> w.run(8));
+        Checks.due("position of the cut word", w.errorPosition(), 8);
+        for (String sign : new String[] {";", "1", "a", "@", " ", "a1", ";;1 "}) {
+            Checks.feed(w, sign.repeat(900 / sign.length()));
+            Checks.dueThrows("900 times " + sign, Checks.STATE, () -> w.load(900));
+            Checks.due("code of 900 times " + sign, w.errorCode(), 1);
+            Checks.due("position of 900 times " + sign, w.errorPosition(), sign.equals(" ") ? 900 : 0);
+        }
+        Checks.due("fork with many clients", Checks.run(w, "fork" + " 2".repeat(447) + ";"), 1);
+    }
+
+    /** Neither a wrong service nor an old one changes what a script may say, nor what operations count. */
+    private static void afterOtherServices() {
+        ForkWatch w = Checks.service(3, 2, 3);
+        Checks.dueThrows("a wrong service", Checks.STATE, () -> Checks.load(w, "clients 6 blocks 9 witness 7"));
+        Checks.dueThrows("client of the wrong one", Checks.STATE, () -> Checks.run(w, "post 3;"));
+        Checks.dueThrows("block of the wrong one", Checks.STATE, () -> Checks.run(w, "0 reads 2;"));
+        Checks.due("code", w.errorCode(), 2);
+        Checks.due("two operations", Checks.run(w, "0 reads 1;0 reads 1;"), 2);
+        Checks.load(w, "clients 2 blocks 1 witness 3;");
+        Checks.dueThrows("client of the old one", Checks.STATE, () -> Checks.run(w, "post 2;"));
+        Checks.due("two operations more", Checks.run(w, "0 reads 0;0 reads 0;"), 2);
+        Checks.due("they count anew", w.posts(), 0);
+        w.read(0, 0);
+        Checks.due("the third one posts", w.posts(), 1);
+    }
+
     private static void limits() {
         String sixty = "post 0;".repeat(60);
         ForkWatch w = Checks.service(3, 2, 50);
@@ -270,7 +311,7 @@ public final class InputTest {
             int at = step.indexOf(word);
             Checks.run(w, step);
             Checks.due("no error in " + step, w.errorCode() * 10 + w.errorPosition(), -1);
-            String[] others = {word.substring(1), word.substring(0, word.length() - 1), word + "s",
+            String[] others = {word.substring(1), word.substring(0, word.length() - 1), word + "s", word + "z",
                 word.substring(0, word.length() - 1) + "z"};
             for (String other : others) {
                 Checks.dueThrows("the word " + other, Checks.STATE, () -> Checks.run(w, step.replace(word, other)));
@@ -285,6 +326,9 @@ public final class InputTest {
         String wrong = "move 0 1;rewind 0 1;corrupt 0 1 5;exchange 1 1;heal 0 0;heal 0 1;";
         Checks.due("all refused", Checks.run(w, wrong), 0);
         Checks.due("refused", w.refused(), 6);
+        String edges = "move 0 7;rewind 7 200;corrupt 7 200 999999;heal 7 0;heal 0 7;";
+        Checks.due("the greatest numbers", Checks.run(w, edges), 0);
+        Checks.due("are refused only", w.refused(), 5);
         String mixed = "0 writes 0 1;rewind 0 1;0 reads 0;1 reads 0;0 reads 0;";
         Checks.due("script with refused steps", Checks.run(w, mixed), 3);
         Checks.due("refused then", w.refused(), 2);

@@ -157,6 +157,15 @@ public final class OperationTest {
         dueBlame(w, 1, 2, 0, 1, 4, w.entry(0, 4, 4), w.entry(1, 4, 4));
         Checks.dueThrows("2 has seen nothing yet", Checks.STATE, () -> w.read(2, 1));
         dueBlame(w, 2, 2, 2, 0, 4, w.entry(1, 4, 4), w.entry(0, 4, 4));
+        ForkWatch v = Checks.service(2, 1, 50);
+        v.fork(2);
+        v.write(0, 0, 1);
+        v.write(1, 0, 2);
+        v.write(1, 0, 3);
+        v.write(1, 0, 4);
+        v.post(0);
+        Checks.dueThrows("a post amid the branch", Checks.STATE, () -> v.read(1, 0));
+        dueBlame(v, 0, 2, 1, 0, 1, v.entry(1, 1, 4), v.entry(0, 1, 4));
     }
 
     /** A branch that is shorter, forked, tampered with and refuted: the first case hides the others. */
@@ -203,6 +212,25 @@ public final class OperationTest {
         Checks.due("adopt 200", w.adopt(2), 200);
         Checks.due("vector of 200", w.vector(2, 0), 200);
         Checks.due("sign of 200", w.isSigned(2, 200, w.receipt(2, 1), w.receipt(2, 2)), true);
+        lastPositionDiffers();
+    }
+
+    private static void lastPositionDiffers() {
+        ForkWatch w = Checks.service(2, 1, 50);
+        Checks.readOften(w, 0, 199);
+        w.fork(2);
+        w.read(0, 0);
+        w.read(1, 0);
+        Checks.due("common length", w.commonLength(0, 1), 199);
+        Checks.due("forked at 200", w.exchange(0, 1), 3);
+        dueBlame(w, 0, 2, 0, 1, 200, w.entry(0, 200, 4), w.entry(1, 200, 4));
+        Checks.due("fork of a full branch", w.fork(2), 2);
+        Checks.due("its last hash", w.entry(2, 200, 4), w.entry(1, 200, 4));
+        w.move(0, 2);
+        w.calm(0);
+        Checks.dueThrows("found at 200", Checks.STATE, () -> w.read(0, 0));
+        dueBlame(w, 1, 2, 0, -1, 200, w.entry(0, 200, 4), w.entry(2, 200, 4));
+        Checks.due("rewind all", w.rewind(2, 200), 0);
     }
 
     private static void intervals() {

@@ -237,6 +237,9 @@ public final class ServiceTest {
         Checks.due("link of the old merge", w.entry(4, 4, 5), w.entry(1, 1, 4));
         Checks.due("hash of the old merge", w.entry(4, 4, 4), Checks.mergeHash(w.entry(4, 3, 4), w.entry(1, 1, 4), 4));
         Checks.due("merges have no client", w.vector(0, 0) + w.vector(0, 1) + w.vector(0, 2), 3);
+        Checks.due("fork the healed one", w.fork(1), 5);
+        dueSameEntries(w, 4, 5, 5);
+        Checks.due("its merge is sound", w.entry(5, 2, 6), 1);
     }
 
     /** Entries of x keep wrong hashes; own entries of y get right ones. */
