@@ -10,6 +10,7 @@ final class Checks {
 
     private static final BigInteger MODULUS = BigInteger.valueOf(2147483647L);
     private static int wrong = 0;
+    private static String topic = "";
 
     private Checks() {
     }
@@ -18,18 +19,32 @@ final class Checks {
         void make();
     }
 
+    /** What stands before each wrong answer from now on. */
+    static void about(String words) {
+        topic = words;
+    }
+
     static void due(String what, long got, long want) {
         if (got != want) {
-            wrong++;
-            System.out.println(what + " answered " + got + ", due is " + want);
+            tellWrong(what + " answered " + got + ", due is " + want);
         }
     }
 
     static void due(String what, boolean got, boolean want) {
         if (got != want) {
-            wrong++;
-            System.out.println(what + " answered " + got + ", due is " + want);
+            tellWrong(what + " answered " + got + ", due is " + want);
         }
+    }
+
+    static void due(String what, String got, String want) {
+        if (!got.equals(want)) {
+            tellWrong(what + " answered " + got + ", due is " + want);
+        }
+    }
+
+    private static void tellWrong(String words) {
+        wrong++;
+        System.out.println(topic + words);
     }
 
     /** Subclasses of the exception do not count: the document names the very one that is thrown. */
@@ -43,8 +58,7 @@ final class Checks {
             }
             got = e.getClass().getName();
         }
-        wrong++;
-        System.out.println(what + " threw " + got + ", due is " + want.getName());
+        tellWrong(what + " threw " + got + ", due is " + want.getName());
     }
 
     static void finish() {
@@ -116,5 +130,25 @@ final class Checks {
 
     static long seal(long before, int client, int position, long hash) {
         return modulo(before, 1000003, hash, 7919, position, 17, client, 1);
+    }
+
+    /**
+     * Values v for two histories of two entries that have different hashes at 1 and the same one at 2: client 0 writes
+     * v[0] to block 0 and v[2] to block 1, client 1 writes v[1] to block 0 and v[3] to block 1.
+     */
+    static int[] collidingWrites() {
+        long modulus = MODULUS.longValue();
+        BigInteger inverse = BigInteger.valueOf(15485863).modInverse(MODULUS);
+        // Client 0 and client 1 write block 0 first and block 1 then: 7919 is what the clients make different.
+        for (int first = 0; first < 100000; first++) {
+            long one = writeHash(1, 0, 0, first, 1);
+            long two = writeHash(1, 1, 0, 0, 1);
+            long gap = Math.floorMod((one - two) * 1000003L - 7919L, modulus);
+            long more = BigInteger.valueOf(gap).multiply(inverse).mod(MODULUS).longValue();
+            if (more <= 999999 && one != two) {
+                return new int[] {first, 0, 0, (int) more};
+            }
+        }
+        throw new IllegalStateException("no collision found");
     }
 }

@@ -1,5 +1,3 @@
-import java.math.BigInteger;
-
 /** Promises 19 to 27: clients, blocks, branches, length, entry, value, branchOf, commonLength, conflicts. */
 public final class QuestionTest {
     public static void main(String[] args) {
@@ -97,7 +95,7 @@ public final class QuestionTest {
 
     /** Two branches that are different at one position and have the same hash at the next. */
     private static void collision() {
-        int[] found = collidingWrites();
+        int[] found = Checks.collidingWrites();
         ForkWatch w = Checks.service(3, 2, 50);
         w.fork(2);
         w.write(0, 0, found[0]);
@@ -120,23 +118,6 @@ public final class QuestionTest {
         w.read(2, 1);
         Checks.due("forked at the first position", w.exchange(0, 2), 3);
         Checks.due("least position", w.blame(0, 3), 1);
-    }
-
-    private static int[] collidingWrites() {
-        long modulus = 2147483647L;
-        BigInteger prime = BigInteger.valueOf(modulus);
-        BigInteger inverse = BigInteger.valueOf(15485863).modInverse(prime);
-        // Client 0 and client 1 write block 0 first and block 1 then: 7919 is what the clients make different.
-        for (int first = 0; first < 100000; first++) {
-            long one = Checks.writeHash(1, 0, 0, first, 1);
-            long two = Checks.writeHash(1, 1, 0, 0, 1);
-            long gap = Math.floorMod((one - two) * 1000003L - 7919L, modulus);
-            long more = BigInteger.valueOf(gap).multiply(inverse).mod(prime).longValue();
-            if (more <= 999999 && one != two) {
-                return new int[] {first, 0, 0, (int) more};
-            }
-        }
-        throw new IllegalStateException("no collision found");
     }
 
     private static void conflictSets() {
