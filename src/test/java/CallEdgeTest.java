@@ -42,6 +42,7 @@ public final class CallEdgeTest {
         Edges.edge(13, "Throws `NoSuchElementException` if there is no such client", CallEdgeTest::noSuchAdopt);
         Edges.edge(14, "Makes a new branch with all entries of the branch that some clients see; these clients see the "
             + "new branch then.", CallEdgeTest::forked);
+        Edges.edge(14, "Returns the number of the new branch.", CallEdgeTest::answerOfFork);
         Edges.edge(14, "Throws `IllegalArgumentException` if the set is empty or has a client that does not exist",
             CallEdgeTest::wrongSets);
         Edges.edge(14, "Throws `IllegalStateException` if they do not all see the same branch, or there are 8 branches",
@@ -396,12 +397,25 @@ public final class CallEdgeTest {
         Checks.due("their branch", w.branchOf(0) * 10 + w.branchOf(2), 33);
         w.write(0, 0, 1);
         Checks.due("the old one stays", w.length(0) * 10 + w.length(3), 12);
+        w.heal(3, 1);
+        w.fork(1);
+        for (int what = 0; what <= 6; what++) {
+            Checks.due("part " + what + " of a merge", w.entry(5, 3, what), w.entry(4, 3, what));
+        }
+        Checks.due("which it is", w.entry(5, 3, 0), 2);
         ForkWatch v = Checks.service(6, 1, 50);
         Checks.due("an empty branch, all clients", v.fork(63), 1);
         Checks.due("its length", v.length(1), 0);
         Checks.readOften(v, 0, 200);
         Checks.due("a full branch", v.fork(32), 2);
         Checks.due("its length", v.length(2), 200);
+    }
+
+    private static void answerOfFork() {
+        ForkWatch w = Checks.service(3, 2, 50);
+        for (int made = 1; made <= 7; made++) {
+            Checks.due("fork", w.fork(1 << made % 3), made);
+        }
     }
 
     private static void wrongSets() {

@@ -115,6 +115,9 @@ public final class HealEdgeTest {
         u.fork(2);
         Checks.due("at most 200", u.commonLength(0, 1), 200);
         Checks.due("full ones have nothing of their own", u.conflicts(0, 1), 0);
+        u.rewind(1, 1);
+        u.read(1, 0);
+        Checks.due("full ones that are different at 200", u.commonLength(0, 1), 199);
     }
 
     private static void ownEntries() {
@@ -215,6 +218,10 @@ public final class HealEdgeTest {
         }
         Checks.due("wrong hashes stay wrong", w.entry(2, 1, 6) + w.entry(2, 2, 6), 0);
         Checks.due("the merge is right", w.entry(2, 3, 6), 1);
+        w.heal(2, 0);
+        for (int what = 0; what <= 6; what++) {
+            Checks.due("part " + what + " of a merge", w.entry(3, 3, what), w.entry(2, 3, what));
+        }
     }
 
     private static void links() {
@@ -249,6 +256,9 @@ public final class HealEdgeTest {
         v.read(0, 0);
         v.heal(0, 1);
         Checks.due("none: the merge is the last", v.length(2) * 10 + v.entry(2, 3, 0), 32);
+        v.heal(1, 2);
+        Checks.due("a merge among them keeps its link", v.entry(3, 4, 5), v.entry(2, 3, 5));
+        Checks.due("and gets a new hash", v.entry(3, 4, 4), Checks.mergeHash(v.entry(3, 3, 4), v.entry(2, 3, 5), 4));
     }
 
     private static void whoIsHealed() {
@@ -351,5 +361,11 @@ public final class HealEdgeTest {
         Checks.due("one that fits y", w.branchOf(0), 3);
         Checks.due("one that stays as it is", w.branchOf(3), 3);
         Checks.due("one that saw another branch", w.branchOf(2), 2);
+        ForkWatch v = Checks.service(6, 1, 50);
+        v.fork(0b111000);
+        v.heal(0, 1);
+        for (int client = 0; client < 6; client++) {
+            Checks.due("each of six", v.branchOf(client), 2);
+        }
     }
 }

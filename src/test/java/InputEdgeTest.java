@@ -109,6 +109,8 @@ public final class InputEdgeTest {
         w.read(0, 0);
         w.exchange(0, 1);
         w.heal(0, 1);
+        w.rewind(2, 1);
+        Checks.dueThrows("a rollback", Checks.STATE, () -> w.read(1, 0));
         Checks.run(w, "heal 0 0;post 2;");
         Checks.load(w, "clients 3 blocks 2 witness 2;");
         Checks.due("as a new one", Snapshot.of(w), Snapshot.of(Checks.service(3, 2, 2)));
@@ -180,9 +182,9 @@ public final class InputEdgeTest {
         w.post(2);
         Checks.run(w, "heal 0 0;");
         String before = Snapshot.of(w);
-        String[] texts = {"", "clients 6 blocks 16 witness 50", "clients 6 blocks 16 witness 51;", "post 0;"};
+        String[] texts = {"", "post 0;", "clients 6 blocks 16 witness 51;", "clients 6 blocks 16 witness 50"};
         int[] codes = {1, 1, 2, 1};
-        int[] positions = {0, 30, 28, 0};
+        int[] positions = {0, 0, 28, 30};
         for (int at = 0; at < texts.length; at++) {
             String text = texts[at];
             Checks.dueThrows("load of " + text, Checks.STATE, () -> Checks.load(w, text));
@@ -192,6 +194,10 @@ public final class InputEdgeTest {
         Checks.due("the interval stays", w.read(2, 0) + w.posts(), 1);
         w.read(2, 0);
         Checks.due("for the second operation", w.posts(), 2);
+        Checks.dueThrows("no client of a wrong service", Checks.STATE, () -> Checks.run(w, "post 3;"));
+        Checks.due("is out of range", w.errorCode() * 10 + w.errorPosition(), 25);
+        Checks.dueThrows("no block of it", Checks.STATE, () -> Checks.run(w, "0 reads 2;"));
+        Checks.due("is out of range", w.errorCode() * 10 + w.errorPosition(), 28);
         ForkWatch v = new ForkWatch();
         Checks.dueThrows("a first one", Checks.STATE, () -> Checks.load(v, "clients 2 blocks 1 witness 1"));
         Checks.due("no service by it", v.clients() + v.blocks() + v.branches(), 0);
@@ -244,6 +250,9 @@ public final class InputEdgeTest {
         Checks.due("an exchange of forked clients is not refused",
             Checks.run(w, "fork 1;1 reads 0;2 reads 0;exchange 1 2;"), 4);
         Checks.due("60", Checks.run(w, "post 0;".repeat(60)), 60);
+        int last = w.boardPost(39, 3);
+        Checks.due("no step behind such a script", w.run(0), 0);
+        Checks.due("its steps are not done again", w.boardPost(39, 3), last);
     }
 
     private static void wrongLengthOfRun() {

@@ -385,6 +385,15 @@ public final class OperationEdgeTest {
         w.move(3, 1);
         dueFound(w, 3);
         dueRecord(w, 2, 2, 3, 2, 2, w.entry(1, 2, 4), w.entry(2, 2, 4));
+        // The post may be anywhere in the branch.
+        ForkWatch u = Checks.service(3, 1, 50);
+        u.read(2, 0);
+        u.fork(2);
+        u.read(0, 0);
+        Checks.readOften(u, 1, 4);
+        u.post(0);
+        dueFound(u, 1);
+        dueRecord(u, 0, 2, 1, 0, 2, u.entry(1, 2, 4), u.entry(0, 2, 4));
         // Its own post can be against the branch, too.
         ForkWatch v = Checks.service(2, 1, 50);
         v.read(0, 0);

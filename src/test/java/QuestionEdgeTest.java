@@ -33,6 +33,8 @@ public final class QuestionEdgeTest {
         Edges.edge(28, "- `what`: 0 the position, 1 the hash, 2 the signature", QuestionEdgeTest::receipts);
         Edges.edge(28, NO_SUCH_CLIENT, QuestionEdgeTest::noSuchReceipt);
         Edges.edge(28, WRONG_WHAT, QuestionEdgeTest::wrongPartOfReceipt);
+        Edges.edge(29, "- `client`: any int - `position`: any int - `hash`: any int - `signature`: any int",
+            QuestionEdgeTest::signedAnyInt);
         Edges.edge(29, "whether client is a client", QuestionEdgeTest::signedByClient);
         Edges.edge(29, "the position is 0 to 200", QuestionEdgeTest::signedPosition);
         Edges.edge(29, "the hash 0 to 2147483646", QuestionEdgeTest::signedHash);
@@ -288,6 +290,20 @@ public final class QuestionEdgeTest {
         if (!due) {
             Checks.due(words + " in int", w.isSigned(client, position, hash, inInt), false);
             Checks.due(words + " by remainder", w.isSigned(client, position, hash, (int) (inLong % 2147483647L)), false);
+        }
+    }
+
+    private static void signedAnyInt() {
+        int[] any = {Edges.MIN, -1, 0, 1, 200, 201, Edges.MAX};
+        for (int client : any) {
+            for (int position : any) {
+                ForkWatch w = apart();
+                for (int hash : any) {
+                    for (int signature : any) {
+                        Checks.due("not signed", w.isSigned(client, position, hash, signature), false);
+                    }
+                }
+            }
         }
     }
 

@@ -213,6 +213,14 @@ public final class ScriptEdgeTest {
         Checks.due("01 is one number", w.branchOf(0) * 100 + w.branchOf(1) * 10 + w.branchOf(2), 11);
         Checks.run(w, "0 writes 0 000012;");
         Checks.due("000012", w.value(0, 0), 12);
+        dueScript("postz 0;", SYNTAX, 0);
+        dueScript("posta 0;", SYNTAX, 0);
+        dueScript("post 0;a", SYNTAX, 7);
+        dueScript("post 9;", RANGE, 5);
+        dueScript(";".repeat(900), SYNTAX, 0);
+        dueScript("1;".repeat(450), SYNTAX, 1);
+        dueScript("?".repeat(900), SYNTAX, 0);
+        dueService(";".repeat(900), SYNTAX, 0);
         dueScript("post `;", SYNTAX, 5);
         dueScript("post {;", SYNTAX, 5);
         dueScript("post /;", SYNTAX, 5);
